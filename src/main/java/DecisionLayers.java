@@ -164,7 +164,7 @@ public final class DecisionLayers {
     }
 
     private static boolean mayStandIn(int layer, int who) {
-        return who == Statement.EVERYBODY || layer == PERMITS && Statement.isWho(who);
+        return layer == PERMITS ? Statement.isWho(who) : who == Statement.EVERYBODY;
     }
 
     private int push(Condition condition) {

@@ -92,6 +92,7 @@ public final class PromisesTest {
         due("1 shorter", suits(1, text("a"), text("ab")), false);
         due("1 longer", suits(1, text("ab"), text("a")), false);
         due("1 other", suits(1, text("ab"), text("ac")), false);
+        due("1 other at the first", suits(1, text("ab"), text("cb")), false);
         due("1 case", suits(1, text("ab"), text("aB")), false);
         due("1 stars are characters", suits(1, text("a*"), text("ab")), false);
         due("1 eight characters", suits(1, text("abcdefgh"), text("abcdefgh")), true);
@@ -293,6 +294,7 @@ public final class PromisesTest {
         due("no condition there", x.state(0, CONDITIONAL, 0, 0, EVERYBODY), BAD);
         due("the layer is not there", x.statements(0), -1);
         x.test(0, 0, 0, 0);
+        due("how -1 with a condition there", x.state(0, -1, 0, 0, EVERYBODY), BAD);
         for (int l = 0; l < 6; l++) {
             for (int k = 0; k < 6; k++) {
                 due("statement " + k + " of layer " + l, x.state(l, k, k, l, EVERYBODY), k);
@@ -303,7 +305,9 @@ public final class PromisesTest {
             due("statements", x.statements(l), 6);
         }
         due("no condition was taken", x.pile(), 1);
-        x.discard();
+        x.drop(1);
+        due("the greatest how", x.state(1, 15, 0, 0, EVERYBODY), 0);
+        due("the condition was taken", x.pile(), 0);
         due("seventh, no condition there", x.state(4, CONDITIONAL, 0, 0, EVERYBODY), BAD);
         stateTakesTheTopmost();
     }
@@ -504,6 +508,8 @@ public final class PromisesTest {
             x.drop(l);
             decided("dropped layers do not bar", x, 1, ALLOWED, 5);
         }
+        x.open(4);
+        decided("an open layer 4 does not bar", x, 1, ALLOWED, 5);
         x.open(2);
         decided("an open layer bars", x, 1, REFUSED, 2);
         x.drop(2);
@@ -690,6 +696,11 @@ public final class PromisesTest {
         due("eight", matches("abcdefgh", "abcdefgh"), true);
         due("a star in the text is a character", matches("a", "*"), false);
         due("dollars in the text are characters", matches("*", "$$$"), true);
+        due("a character stands for one", matches("ab", "b"), false);
+        due("a character does not stand for none", matches("aa", "a"), false);
+        due("the code 1", matches("a\u0001b", "a\u0001b"), true);
+        due("the code 1 is no end", matches("a", "a\u0001"), false);
+        due("the code 1 is no end of a pattern", matches("a\u0001", "a"), false);
         due("codes above 127", matches("\u00ff\u0080", "\u00ff\u0080"), true);
         due("codes above 127", matches("?\u0080", "\u00ff\u0081"), false);
         DecisionLayers x = new DecisionLayers();
